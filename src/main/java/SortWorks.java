@@ -41,9 +41,9 @@ public final class SortWorks {
 
     private final byte[] tape = new byte[TAPE_BYTES];
     private int tapeLength;
-    private final Reader reader = new Reader();
     private Plan told = new Plan();
     private Plan draft = new Plan();
+    private final Reader reader = new Reader(tape, draft);
     private int faultNumber;
     private int faultPlace = NONE;
     private final int[] chosen = new int[UNITS];
@@ -87,7 +87,7 @@ public final class SortWorks {
     }
 
     public int plan() {
-        reader.read(tape, tapeLength, draft);
+        reader.read(tapeLength, draft);
         faultNumber = reader.fault;
         faultPlace = reader.faultPlace;
         if (faultNumber != 0) {
@@ -277,7 +277,7 @@ public final class SortWorks {
     }
 
     public int lorry(int town, int weight, int a, int b, int c, int d, int e) {
-        if (!isTown(town) || weight < 1 || weight > MOST_WEIGHT || yard.count >= LORRIES) {
+        if (!isTown(town) || weight < 1 || weight > MOST_WEIGHT) {
             return NONE;
         }
         if (!isSampled(a) || !isSampled(b) || !isSampled(c) || !isSampled(d) || !isSampled(e)) {
@@ -452,7 +452,7 @@ public final class SortWorks {
         private static final int MOST_LETTERS = 8;
         private static final int MOST_DIGITS = 5;
 
-        private byte[] text = new byte[0];
+        private final byte[] text;
         private int length;
         private int next;
         private int type;
@@ -461,9 +461,12 @@ public final class SortWorks {
         private long word;
         private int number;
 
-        private void start(byte[] bytes, int count) {
+        private Tokens(byte[] bytes) {
             text = bytes;
-            length = Math.min(count, bytes.length);
+        }
+
+        private void start(int count) {
+            length = Math.min(count, text.length);
             next = 0;
             place = 0;
             advance();
@@ -538,8 +541,8 @@ public final class SortWorks {
 
         private int fault;
         private int faultPlace;
-        private final Tokens tokens = new Tokens();
-        private Plan plan = new Plan();
+        private final Tokens tokens;
+        private Plan plan;
         private final long[] names = new long[MOST_NAMES];
         private final int[] namePlaces = new int[MOST_NAMES];
         private final int[] nameUnits = new int[MOST_NAMES];
@@ -549,14 +552,19 @@ public final class SortWorks {
         private final int[] setValues = new int[MOST_SETS * KINDS];
         private int setCount;
 
-        private void read(byte[] bytes, int count, Plan into) {
+        private Reader(byte[] bytes, Plan into) {
+            tokens = new Tokens(bytes);
+            plan = into;
+        }
+
+        private void read(int count, Plan into) {
             plan = into;
             plan.clear();
             fault = 0;
             faultPlace = NONE;
             nameCount = 0;
             setCount = 0;
-            tokens.start(bytes, count);
+            tokens.start(count);
             for (int line = 0; line <= TAPE_BYTES && fault == 0 && tokens.type != Tokens.END; line++) {
                 if (tokens.type == Tokens.UNIT) {
                     readUnit();

@@ -14,6 +14,7 @@ public final class PromisesTest {
         feed();
         end();
         plan();
+        planAfterPlans();
         faultOfNoPlan();
         faultsOfTokens();
         faultsOfPlaces();
@@ -150,6 +151,25 @@ public final class PromisesTest {
         planned("unit a yes e no b;unit b yes a no a;unit c yes c no c;unit d yes d no e;unit e yes refuse no bale 0;", 5);
         planned("unit units yes yess no noo;unit yess yes refuse no bale 0;unit noo yes units no refuse;", 3);
         planned("grade 0 1 2 3;grade 1 1 2 3;", 0);
+    }
+
+    /** What an earlier plan, or the told part of one with a fault, said must not show through in a later one. */
+    private static void planAfterPlans() {
+        SortWorks x = planned(RING, 3);
+        String small = "unit a yes a no bale 2;";
+        for (int time = 0; time < 3; time++) {
+            check.due("a small plan", Check.plan(x, small), 1);
+            check.due("its settings", x.unit(0, 0), 1);
+            check.due("its setting", x.setting(0, 0, 0), 0);
+            check.due("its grades", x.about(10), 0);
+            check.due("units", x.unit(1, 0), -1);
+            check.due("a plan with a fault", Check.plan(x, RING + "?"), -1);
+        }
+        for (int time = 0; time < 3; time++) {
+            check.due("a large plan", Check.plan(x, RING), 3);
+            check.due("its settings", x.unit(1, 0), 2);
+            check.due("its grades", x.about(10), 2);
+        }
     }
 
     private static void faultOfNoPlan() {
