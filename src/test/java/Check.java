@@ -22,6 +22,16 @@ final class Check {
         due(call, got ? 1 : 0, want ? 1 : 0);
     }
 
+    void due(String call, String got, String want) {
+        looked++;
+        if (!got.equals(want)) {
+            wrong++;
+            if (wrong <= 40) {
+                System.out.println(name + ": " + call + "\n  answered " + got + "\n  due is   " + want);
+            }
+        }
+    }
+
     boolean failed() {
         return wrong > 0;
     }
