@@ -383,6 +383,13 @@ public final class CallBoundsTest {
             check.due("purity(1)", x.purity(1), row[0]);
             check.due("earns(1) of " + row[0], x.earns(1), row[1]);
         }
+        for (int bale = 0; bale < 4; bale++) {
+            String four = "unit a yes a no bale B;grade B 4 9 1;grade B 4 90 2;grade B 4 8 3;grade B 4 91 4;".replace("B", "" + bale);
+            SortWorks full = planned(four);
+            full.inflow(4, 90000);
+            full.inflow(0, 10000);
+            check.due("earns(" + bale + ") of four grades", full.earns(bale), 200);
+        }
         SortWorks y = planned("unit a yes a no bale 1;grade 1 0 0 5000;grade 1 0 1 0;");
         y.inflow(1, 100);
         check.due("a grade of purity 0", y.earns(1), 500);

@@ -319,6 +319,9 @@ public final class LorryBoundsTest {
         light.lorry(0, 1, 1, 1000, 1000, 0, 0);
         check.due("a load that is cut to nothing", light.brought(0, 0), 0);
         shares(light, 0, 5, 0, 0, 0, 0, 0);
+        light.lorry(1, 1, 1, 999, 0, 0, 0);
+        check.due("a single gram", light.brought(1, 0), 1);
+        shares(light, 0, 5, 0, 5, 0, 0, 0);
     }
 
     /** No product of a sum and grams is too great, and a rest of a single gram counts. */

@@ -25,6 +25,7 @@ public final class TextBoundsTest {
         fiveUnits();
         threeSettings();
         fourGrades();
+        setsOfMostBytes();
         allAtOnce();
         numbersOfBales();
         numbersOfSet();
@@ -44,6 +45,7 @@ public final class TextBoundsTest {
         feedOfTooMany();
         endOfTape();
         planEmptiesTheTape();
+        nothingOfEarlierPlans();
         planWithAFault();
         faultOfTheLatestPlan();
         unitsThereAre();
@@ -297,6 +299,17 @@ public final class TextBoundsTest {
             fails(four + "grade ", 2, place);
             reads(four + "grade " + (bale + 1) % 4 + " 0 0 0;", 0);
         }
+    }
+
+    /** As many SETTINGS of different NAMES as a text can hold, the 80th of them cut off by its end. */
+    private static void setsOfMostBytes() {
+        StringBuilder text = new StringBuilder();
+        for (int line = 0; line < 78; line++) {
+            text.append("set ").append((char) ('a' + line % 26)).append("0 0 0 0 0;");
+        }
+        fails(text + "set aa0 0 0 0 0;", 6, 4);
+        fails(text + "set aa0 0 0 0 0;set ab0 0 0 0 ", 2, 1200);
+        fails(text + "set z0 0 0 0 0;", 2, 1174);
     }
 
     /** As many UNITS, SETTINGS and grades as there may be, in one text. */
@@ -631,6 +644,33 @@ public final class TextBoundsTest {
             check.due("choose", x.choose(0, 1), units > 0);
         }
         check.due("feed", x.feed(BLANKS, BLANKS, BLANKS, BLANKS, BLANKS), 20);
+    }
+
+    // "The TAPE .. is the PLAN": nothing of an earlier one, or of a text with a FAULT, is in it
+    private static void nothingOfEarlierPlans() {
+        String small = "unit a yes a no bale 3;set a 1 1 1 1 1;grade 3 0 50 1000;";
+        String bare = "unit a yes bale 0 no bale 3;";
+        String large = FIVE + "set a 9 9 9 9 9;set b 8 8 8 8 8;set a 7 7 7 7 7;set a 6 6 6 6 6;"
+            + "grade 3 4 0 9;grade 3 4 1 9;grade 3 4 2 9;grade 3 4 3 9;grade 0 1 0 1;";
+        String[] texts = {small, bare, large, "unit z yes y no x;", large + "?", "set a 1 2 3 4 5;set nobody 1 2 3 4 5;", "grade 3 0 50 1;;"};
+        for (String before : texts) {
+            for (String between : texts) {
+                for (String text : new String[] {small, bare, large, ""}) {
+                    SortWorks x = new SortWorks();
+                    Check.plan(x, before);
+                    Check.plan(x, between);
+                    Check.plan(x, text);
+                    SortWorks y = new SortWorks();
+                    Check.plan(y, text);
+                    for (SortWorks works : new SortWorks[] {x, y}) {
+                        works.inflow(0, 49000);
+                        works.inflow(1, 51000);
+                    }
+                    check.due(text + " behind " + before + between, State.of(x), State.of(y));
+                    check.due("a purity told in an earlier plan", Check.plan(x, "grade 3 2 50 1;"), 0);
+                }
+            }
+        }
     }
 
     // "NONE: a FAULT (all stays)."
