@@ -12,6 +12,8 @@ public final class SortWorks {
     private static final int TOWNS = 5;
     private static final int LORRIES = 60;
     private static final int TAPE_BYTES = 1200;
+    /** What one feed() puts on the TAPE. */
+    private static final int FED_BYTES = 20;
 
     /** BALES and, behind them, the refuse. */
     private static final int OUTS = 5;
@@ -39,11 +41,8 @@ public final class SortWorks {
 
     private static final int WHAT_BALE_GRADES = 10;
 
-    private final byte[] tape = new byte[TAPE_BYTES];
-    private int tapeLength;
     private Plan told = new Plan();
-    private Plan draft = new Plan();
-    private final Reader reader = new Reader(tape, draft);
+    private final Reader reader = new Reader();
     private int faultNumber;
     private int faultPlace = NONE;
     private final int[] chosen = new int[UNITS];
@@ -60,43 +59,37 @@ public final class SortWorks {
     }
 
     public int feed(int a, int b, int c, int d, int e) {
-        if (tapeLength + 20 > TAPE_BYTES) {
+        Tape tape = reader.tape;
+        if (tape.length + FED_BYTES > TAPE_BYTES) {
             return NONE;
         }
-        putNumber(a);
-        putNumber(b);
-        putNumber(c);
-        putNumber(d);
-        putNumber(e);
-        return tapeLength;
-    }
-
-    private void putNumber(int number) {
-        for (int shift = 24; shift >= 0 && tapeLength < TAPE_BYTES; shift -= 8) {
-            tape[tapeLength] = (byte) (number >> shift);
-            tapeLength++;
-        }
+        tape.put(a);
+        tape.put(b);
+        tape.put(c);
+        tape.put(d);
+        tape.put(e);
+        return tape.length;
     }
 
     public int end(int n) {
-        if (n < 0 || n > tapeLength) {
+        if (n < 0 || n > reader.tape.length) {
             return NONE;
         }
-        tapeLength = n;
+        reader.tape.length = n;
         return n;
     }
 
     public int plan() {
-        reader.read(tapeLength, draft);
+        reader.read();
         faultNumber = reader.fault;
         faultPlace = reader.faultPlace;
         if (faultNumber != 0) {
             return NONE;
         }
         Plan former = told;
-        told = draft;
-        draft = former;
-        tapeLength = 0;
+        told = reader.draft;
+        reader.draft = former;
+        reader.tape.length = 0;
         Arrays.fill(chosen, 0);
         return told.units;
     }
@@ -319,7 +312,7 @@ public final class SortWorks {
             case 2:
                 return costOfKilogram;
             case 3:
-                return tapeLength;
+                return reader.tape.length;
             default:
                 break;
         }
@@ -428,8 +421,8 @@ public final class SortWorks {
         }
     }
 
-    /** The TOKENS of a text, one at a time. */
-    private static final class Tokens {
+    /** The bytes that were fed, and their TOKENS, one at a time. */
+    private static final class Tape {
         /** Types of TOKENS: the first seven are places in RESERVED. */
         private static final int UNIT = 0;
         private static final int YES = 1;
@@ -452,7 +445,7 @@ public final class SortWorks {
         private static final int MOST_LETTERS = 8;
         private static final int MOST_DIGITS = 5;
 
-        private final byte[] text;
+        private final byte[] bytes = new byte[TAPE_BYTES];
         private int length;
         private int next;
         private int type;
@@ -461,12 +454,15 @@ public final class SortWorks {
         private long word;
         private int number;
 
-        private Tokens(byte[] bytes) {
-            text = bytes;
+        /** Four bytes, the highest first. */
+        private void put(int fed) {
+            for (int shift = 24; shift >= 0 && length < TAPE_BYTES; shift -= 8) {
+                bytes[length] = (byte) (fed >> shift);
+                length++;
+            }
         }
 
-        private void start(int count) {
-            length = Math.min(count, text.length);
+        private void start() {
             next = 0;
             place = 0;
             advance();
@@ -474,26 +470,26 @@ public final class SortWorks {
 
         private void advance() {
             formerPlace = place;
-            while (next < length && (text[next] == ' ' || text[next] == '\n')) {
+            while (next < length && (bytes[next] == ' ' || bytes[next] == '\n')) {
                 next++;
             }
             place = next;
             if (next >= length) {
                 type = END;
-            } else if (isLetter(text[next])) {
+            } else if (isLetter(bytes[next])) {
                 scanWord();
-            } else if (isDigit(text[next])) {
+            } else if (isDigit(bytes[next])) {
                 scanNumber();
             } else {
-                type = text[next] == ';' ? SIGN : BAD;
+                type = bytes[next] == ';' ? SIGN : BAD;
                 next++;
             }
         }
 
         private void scanWord() {
             word = 0;
-            while (next < length && isLetter(text[next])) {
-                word = word << 8 | text[next];
+            while (next < length && isLetter(bytes[next])) {
+                word = word << 8 | bytes[next];
                 next++;
             }
             type = next - place > MOST_LETTERS ? BAD : NAME;
@@ -506,11 +502,11 @@ public final class SortWorks {
 
         private void scanNumber() {
             number = 0;
-            while (next < length && isDigit(text[next])) {
-                number = number * 10 + (text[next] - '0');
+            while (next < length && isDigit(bytes[next])) {
+                number = number * 10 + (bytes[next] - '0');
                 next++;
             }
-            boolean letterBehind = next < length && isLetter(text[next]);
+            boolean letterBehind = next < length && isLetter(bytes[next]);
             type = letterBehind || next - place > MOST_DIGITS ? BAD : NUMBER;
         }
 
@@ -523,7 +519,7 @@ public final class SortWorks {
         }
     }
 
-    /** Reads a text into a Plan, up to its first FAULT. */
+    /** Reads the TAPE into a draft of a Plan, up to its first FAULT. */
     private static final class Reader {
         private static final int NO_TOKEN_FAULT = 1;
         private static final int STAND_FAULT = 2;
@@ -541,8 +537,8 @@ public final class SortWorks {
 
         private int fault;
         private int faultPlace;
-        private final Tokens tokens;
-        private Plan plan;
+        private final Tape tape = new Tape();
+        private Plan draft = new Plan();
         private final long[] names = new long[MOST_NAMES];
         private final int[] namePlaces = new int[MOST_NAMES];
         private final int[] nameUnits = new int[MOST_NAMES];
@@ -552,25 +548,19 @@ public final class SortWorks {
         private final int[] setValues = new int[MOST_SETS * KINDS];
         private int setCount;
 
-        private Reader(byte[] bytes, Plan into) {
-            tokens = new Tokens(bytes);
-            plan = into;
-        }
-
-        private void read(int count, Plan into) {
-            plan = into;
-            plan.clear();
+        private void read() {
+            draft.clear();
             fault = 0;
             faultPlace = NONE;
             nameCount = 0;
             setCount = 0;
-            tokens.start(count);
-            for (int line = 0; line <= TAPE_BYTES && fault == 0 && tokens.type != Tokens.END; line++) {
-                if (tokens.type == Tokens.UNIT) {
+            tape.start();
+            for (int line = 0; line <= TAPE_BYTES && fault == 0 && tape.type != Tape.END; line++) {
+                if (tape.type == Tape.UNIT) {
                     readUnit();
-                } else if (tokens.type == Tokens.SET) {
+                } else if (tape.type == Tape.SET) {
                     readSet();
-                } else if (tokens.type == Tokens.GRADE) {
+                } else if (tape.type == Tape.GRADE) {
                     readGrade();
                 } else {
                     refuseToken();
@@ -583,38 +573,38 @@ public final class SortWorks {
         }
 
         private void readUnit() {
-            if (plan.units >= UNITS) {
+            if (draft.units >= UNITS) {
                 refuseToken();
                 return;
             }
-            tokens.advance();
+            tape.advance();
             int name = takeName();
             if (fault == 0 && nameUnits[name] != NONE) {
-                fail(TOLD_FAULT, tokens.formerPlace);
+                fail(TOLD_FAULT, tape.formerPlace);
             }
-            take(Tokens.YES);
+            take(Tape.YES);
             int yes = takeOut();
-            take(Tokens.NO);
+            take(Tape.NO);
             int no = takeOut();
-            take(Tokens.SIGN);
+            take(Tape.SIGN);
             if (fault == 0) {
-                nameUnits[name] = plan.units;
-                plan.yesLeads[plan.units] = yes;
-                plan.noLeads[plan.units] = no;
-                plan.units++;
+                nameUnits[name] = draft.units;
+                draft.yesLeads[draft.units] = yes;
+                draft.noLeads[draft.units] = no;
+                draft.units++;
             }
         }
 
         private void readSet() {
-            tokens.advance();
+            tape.advance();
             int name = takeName();
             if (fault == 0 && (nameSettings[name] >= SETTINGS || setCount >= MOST_SETS)) {
-                fail(STAND_FAULT, tokens.formerPlace);
+                fail(STAND_FAULT, tape.formerPlace);
             }
             for (int kind = 0; kind < KINDS && fault == 0; kind++) {
                 setValues[setCount * KINDS + kind] = takeNumber(HUNDRED);
             }
-            take(Tokens.SIGN);
+            take(Tape.SIGN);
             if (fault == 0) {
                 setNames[setCount] = name;
                 nameSettings[name]++;
@@ -623,33 +613,33 @@ public final class SortWorks {
         }
 
         private void readGrade() {
-            tokens.advance();
+            tape.advance();
             int bale = takeNumber(BALES - 1);
-            if (fault == 0 && plan.grades[bale] >= GRADES) {
-                fail(STAND_FAULT, tokens.formerPlace);
+            if (fault == 0 && draft.grades[bale] >= GRADES) {
+                fail(STAND_FAULT, tape.formerPlace);
             }
             int kind = takeNumber(KINDS - 1);
-            if (fault == 0 && plan.grades[bale] > 0 && plan.gradeKinds[bale] != kind) {
-                fail(GRADE_FAULT, tokens.formerPlace);
+            if (fault == 0 && draft.grades[bale] > 0 && draft.gradeKinds[bale] != kind) {
+                fail(GRADE_FAULT, tape.formerPlace);
             }
             int purity = takeNumber(HUNDRED);
-            if (fault == 0 && plan.hasGrade(bale, purity)) {
-                fail(GRADE_FAULT, tokens.formerPlace);
+            if (fault == 0 && draft.hasGrade(bale, purity)) {
+                fail(GRADE_FAULT, tape.formerPlace);
             }
             int price = takeNumber(MOST_PRICE);
-            take(Tokens.SIGN);
+            take(Tape.SIGN);
             if (fault == 0) {
-                plan.addGrade(bale, kind, purity, price);
+                draft.addGrade(bale, kind, purity, price);
             }
         }
 
         private int takeOut() {
-            if (tokens.type == Tokens.REFUSE) {
-                take(Tokens.REFUSE);
+            if (tape.type == Tape.REFUSE) {
+                take(Tape.REFUSE);
                 return LEADS_TO_REFUSE;
             }
-            if (tokens.type == Tokens.BALE) {
-                take(Tokens.BALE);
+            if (tape.type == Tape.BALE) {
+                take(Tape.BALE);
                 return LEADS_TO_BALE + takeNumber(BALES - 1);
             }
             return LEADS_TO_NAME + takeName();
@@ -657,57 +647,57 @@ public final class SortWorks {
 
         private void take(int type) {
             if (accepts(type)) {
-                tokens.advance();
+                tape.advance();
             }
         }
 
         /** From 0 to most, whatever comes: it may be used as an index. */
         private int takeNumber(int most) {
-            if (!accepts(Tokens.NUMBER)) {
+            if (!accepts(Tape.NUMBER)) {
                 return 0;
             }
-            int number = tokens.number;
+            int number = tape.number;
             if (number > most) {
-                fail(NUMBER_FAULT, tokens.place);
+                fail(NUMBER_FAULT, tape.place);
                 return 0;
             }
-            tokens.advance();
+            tape.advance();
             return number;
         }
 
         /** A NAME's number, 0 behind a FAULT: it may be used as an index. */
         private int takeName() {
-            if (!accepts(Tokens.NAME)) {
+            if (!accepts(Tape.NAME)) {
                 return 0;
             }
             int name = 0;
-            while (name < nameCount && names[name] != tokens.word) {
+            while (name < nameCount && names[name] != tape.word) {
                 name++;
             }
             if (name >= MOST_NAMES) {
-                fail(STAND_FAULT, tokens.place);
+                fail(STAND_FAULT, tape.place);
                 return 0;
             }
             if (name == nameCount) {
-                names[name] = tokens.word;
-                namePlaces[name] = tokens.place;
+                names[name] = tape.word;
+                namePlaces[name] = tape.place;
                 nameUnits[name] = NONE;
                 nameSettings[name] = 0;
                 nameCount++;
             }
-            tokens.advance();
+            tape.advance();
             return name;
         }
 
         private boolean accepts(int type) {
-            if (fault == 0 && tokens.type != type) {
+            if (fault == 0 && tape.type != type) {
                 refuseToken();
             }
             return fault == 0;
         }
 
         private void refuseToken() {
-            fail(tokens.type == Tokens.BAD ? NO_TOKEN_FAULT : STAND_FAULT, tokens.place);
+            fail(tape.type == Tape.BAD ? NO_TOKEN_FAULT : STAND_FAULT, tape.place);
         }
 
         private void fail(int which, int place) {
@@ -728,13 +718,13 @@ public final class SortWorks {
 
         private void settle() {
             for (int set = 0; set < setCount; set++) {
-                plan.addSetting(nameUnits[setNames[set]], setValues, set * KINDS);
+                draft.addSetting(nameUnits[setNames[set]], setValues, set * KINDS);
             }
-            for (int unit = 0; unit < plan.units; unit++) {
-                plan.yesLeads[unit] = settled(plan.yesLeads[unit]);
-                plan.noLeads[unit] = settled(plan.noLeads[unit]);
+            for (int unit = 0; unit < draft.units; unit++) {
+                draft.yesLeads[unit] = settled(draft.yesLeads[unit]);
+                draft.noLeads[unit] = settled(draft.noLeads[unit]);
                 // clear() left a row of zeros: the one SETTING of a UNIT that was told none
-                plan.settings[unit] = Math.max(plan.settings[unit], 1);
+                draft.settings[unit] = Math.max(draft.settings[unit], 1);
             }
         }
 

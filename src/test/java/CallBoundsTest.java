@@ -1,3 +1,4 @@
+import java.math.BigInteger;
 import java.util.Arrays;
 
 /**
@@ -43,6 +44,7 @@ public final class CallBoundsTest {
         chancesThatCanBe();
         chancesInLowestTerms();
         chancesOfTheGreatest();
+        allChances();
         check.finish();
     }
 
@@ -591,5 +593,31 @@ public final class CallBoundsTest {
         chance(30, 15, 15, 15, 1, 1);
         chance(29, 14, 14, 13, 77558759, 77558760);
         chance(30, 15, 14, 0, 1, 9694845);
+    }
+
+    /** Each TEST that can be, by Pascal's triangle. */
+    private static void allChances() {
+        long[][] ways = new long[31][31];
+        for (int n = 0; n <= 30; n++) {
+            ways[n][0] = 1;
+            for (int s = 1; s <= n; s++) {
+                ways[n][s] = ways[n - 1][s - 1] + ways[n - 1][s];
+            }
+        }
+        for (int n = 1; n <= 30; n++) {
+            for (int b = 0; b <= n; b++) {
+                for (int s = 0; s <= n; s++) {
+                    SortWorks x = new SortWorks();
+                    long passing = 0;
+                    for (int a = 0; a <= s; a++) {
+                        passing += ways[b][a] * ways[n - b][s - a];
+                        long all = ways[n][s];
+                        long divisor = BigInteger.valueOf(passing).gcd(BigInteger.valueOf(all)).longValue();
+                        check.due("numerator", x.chance(n, b, s, a, 0), passing / divisor);
+                        check.due("denominator", x.chance(n, b, s, a, 1), all / divisor);
+                    }
+                }
+            }
+        }
     }
 }

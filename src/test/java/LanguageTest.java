@@ -4,7 +4,9 @@ import java.lang.reflect.Method;
 import java.lang.reflect.Modifier;
 import java.nio.file.Files;
 import java.nio.file.Path;
+import java.util.Map;
 import java.util.Set;
+import java.util.TreeMap;
 import java.util.TreeSet;
 import java.util.regex.Matcher;
 import java.util.regex.Pattern;
@@ -32,6 +34,7 @@ public final class LanguageTest {
         }
         check.due("classes", SortWorks.class.getDeclaredClasses().length <= 11, true);
         methodLengths(code);
+        callDepths(code);
         check.finish();
     }
 
@@ -88,5 +91,32 @@ public final class LanguageTest {
             methods++;
         }
         check.due("methods seen", methods > 60, true);
+    }
+
+    /** By names alone: two methods of one name count as one, so a depth may be told too great, never too small. */
+    private static void callDepths(String code) {
+        Map<String, Set<String>> calls = new TreeMap<>();
+        Matcher start = Pattern.compile("(?m)^( {4}| {8})(?:public|private)[^;={]*?(\\w+)\\([^;{]*\\) \\{$").matcher(code);
+        while (start.find()) {
+            String body = code.substring(start.end(), code.indexOf("\n" + start.group(1) + "}\n", start.end()));
+            Matcher called = Pattern.compile("(\\w+)\\(").matcher(body);
+            Set<String> names = calls.computeIfAbsent(start.group(2), name -> new TreeSet<>());
+            while (called.find()) {
+                names.add(called.group(1));
+            }
+        }
+        for (String name : calls.keySet()) {
+            check.due("calls below " + name, depth(name, calls, 1) <= 8, true);
+        }
+    }
+
+    private static int depth(String name, Map<String, Set<String>> calls, int level) {
+        int deepest = level;
+        for (String called : calls.get(name)) {
+            if (level <= 8 && calls.containsKey(called)) {
+                deepest = Math.max(deepest, depth(called, calls, level + 1));
+            }
+        }
+        return deepest;
     }
 }
